@@ -16,6 +16,7 @@ public final class SlipBench {
     private static final int MAX_RUB = 9;
     private static final int MAX_ACTS = 6;
     private static final int MAX_TERM = 1000;
+    /** The ends of a LINE in a COLUMN differ by 0 .. 4. */
     private static final int DROPS = 5;
 
     private static final int WATER = 0;
@@ -37,7 +38,8 @@ public final class SlipBench {
     private final Line worstLine;
     private final Fraction worstShare;
     private final Fraction begunShare;
-    private final boolean[] safe;
+    private final boolean[] dead;
+    private final int[] tried;
     private final int[] steps;
     private int stepCount;
     private boolean worstKnown;
@@ -53,7 +55,8 @@ public final class SlipBench {
         worstLine = new Line();
         worstShare = new Fraction();
         begunShare = new Fraction();
-        safe = new boolean[1 << MAX_ACTS];
+        dead = new boolean[1 << MAX_ACTS];
+        tried = new int[MAX_ACTS];
         steps = new int[MAX_ACTS];
         stepCount = 0;
         worstKnown = false;
@@ -240,11 +243,16 @@ public final class SlipBench {
             return NONE;
         }
         ground.reckon();
-        markSafeSets(p, q);
-        if (!safe[0]) {
+        int all = (1 << acts.size) - 1;
+        for (int set = 0; set <= all; set++) {
+            dead[set] = false;
+        }
+        // All ACTS come first: if the GROUND does not stand behind them, no ORDER can end well.
+        if (all != 0 && !(standsBehind(all, p, q) && leadsOn(0, 0, p, q))) {
             return NO_ORDER;
         }
-        writeSteps();
+        System.arraycopy(tried, 0, steps, 0, MAX_ACTS);
+        stepCount = acts.size;
         return stepCount;
     }
 
@@ -277,6 +285,7 @@ public final class SlipBench {
 
     private boolean knowWorst() {
         if (!worstKnown) {
+            ground.reckon();
             search.study(ground);
             worstExists = search.findWorst(worstLine, worstShare);
             if (worstExists) {
@@ -290,6 +299,7 @@ public final class SlipBench {
     private boolean standsRisen(int n, int p, int q) {
         trial.copy(ground);
         trial.raiseWater(n);
+        trial.reckon();
         search.study(trial);
         return search.stands(p, q);
     }
@@ -297,46 +307,36 @@ public final class SlipBench {
     private boolean standsBehind(int set, int p, int q) {
         trial.copy(ground);
         for (int act = 0; act < acts.size; act++) {
-            if ((set >> act & 1) == 1) {
+            if ((set & (1 << act)) != 0) {
                 acts.doOn(trial, act);
             }
         }
+        trial.reckon();
         search.study(trial);
         return search.stands(p, q);
     }
 
     /**
+     * Whether from a set, of so many ACTS, one can go on to all; how is written to what is tried.
      * The GROUND behind some ACTS is the same whatever their order (least levels and capped sums of
-     * one COLUMN can be taken in any order), so sets of ACTS stand for all orders of them. A set is
-     * safe if the GROUND stands behind it and safe sets lead on from it to all ACTS.
+     * one COLUMN can be taken in any order), so a set that did not lead on once never does.
      */
-    private void markSafeSets(int p, int q) {
-        int all = (1 << acts.size) - 1;
-        for (int set = all; set >= 0; set--) {
-            boolean leadsOn = set == all || nextSafe(set) != NONE;
-            safe[set] = leadsOn && (set == 0 || standsBehind(set, p, q));
+    private boolean leadsOn(int set, int size, int p, int q) {
+        if (size >= acts.size) {
+            return true;
         }
-    }
-
-    private int nextSafe(int set) {
         for (int act = 0; act < acts.size; act++) {
-            if ((set >> act & 1) == 0 && safe[set | 1 << act]) {
-                return act;
+            int more = set | (1 << act);
+            if (more != set && !dead[more]) {
+                tried[size] = act;
+                boolean last = size + 1 == acts.size;
+                if (last || standsBehind(more, p, q) && leadsOn(more, size + 1, p, q)) {
+                    return true;
+                }
+                dead[more] = true;
             }
         }
-        return NONE;
-    }
-
-    private void writeSteps() {
-        int set = 0;
-        for (int k = 0; k < acts.size; k++) {
-            int act = nextSafe(set);
-            if (act != NONE) {
-                steps[k] = act;
-                set = set | 1 << act;
-            }
-        }
-        stepCount = acts.size;
+        return false;
     }
 
     /** The EARTHS told so far. */
@@ -488,7 +488,7 @@ public final class SlipBench {
             return holds[low * DROPS + drop];
         }
 
-        /** DRIVES of a LINE that falls by drop (0 and more) from high; one that rises so has its negative. */
+        /** DRIVES of a LINE whose greater end is high, with such a DROP (below 0 where it rises). */
         int drivesFrom(int high, int drop) {
             return high >= 0 && high <= tall ? 10 * presses[high] * drop : 0;
         }
@@ -694,9 +694,9 @@ public final class SlipBench {
             studied = ground;
         }
 
+        /** Of a GROUND that is reckoned. */
         void study(Ground ground) {
             studied = ground;
-            ground.reckon();
         }
 
         /** Whether the WORST is not below upper / lower. */

@@ -9,12 +9,15 @@ public final class RandomRunsTest {
     private final PlainBench plain = new PlainBench();
     private final int widest;
     private final int tallest;
+    /** EARTHS that hardly hold, so that many LINES have the same SHARE. */
+    private final boolean slick;
     private final StringBuilder told = new StringBuilder();
 
     private RandomRunsTest(int seed, int widest, int tallest) {
         random = new Random(seed);
         this.widest = widest;
         this.tallest = tallest;
+        slick = seed % 4 == 1;
     }
 
     public static void main(String[] args) {
@@ -85,8 +88,8 @@ public final class RandomRunsTest {
             same(form("ground", n), plain.ground(n), x.ground(n));
         } else if (kind <= 2) {
             int weight = random.nextBoolean() ? about(30) : 1 + upTo(3);
-            int hold = random.nextBoolean() ? about(99) : upTo(2);
-            int rub = about(9);
+            int hold = slick ? random.nextInt(4) / 3 : random.nextBoolean() ? about(99) : upTo(2);
+            int rub = slick ? random.nextInt(3) / 2 : about(9);
             boolean rock = random.nextInt(4) == 0;
             same(form("earth", weight, hold, rub, rock ? 1 : 0), plain.earth(weight, hold, rub, rock),
                     x.earth(weight, hold, rub, rock));
